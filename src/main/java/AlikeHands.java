@@ -836,13 +836,17 @@ public final class AlikeHands {
             whole = Math.abs(a * a - b * b);
             shared = common(Math.abs(a), Math.abs(b));
             moments = shared < 1 ? 0 : whole / shared;
-            firstOther = 0;
-            // The y of the first x tells all: the y of the k-th x are as far on, k times.
+            firstOther = leastOther(a, b);
+        }
+
+        /** The least y where x is 1 by moments, in parts of whole; where x is k times as far on, so are its y. */
+        int leastOther(int a, int b) {
             for (int j = 0; j < moments; j++) {
                 if (rest(b * j - a * shared, whole) == 0 && rest(a * j - b * shared, whole) == 0) {
-                    firstOther = j;
+                    return j;
                 }
             }
+            return 0;
         }
 
         boolean isNone() {
