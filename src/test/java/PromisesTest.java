@@ -1,63 +1,6 @@
 /** The promises one after another: what is ordinary, the edges that the document names, what is wrong. */
-public final class PromisesTest {
-    private static final int NONE = -1000000, BAD = -1000001, STATE = -1000002, FULL = -1000003;
-    private static final int NULL = -1000011, PLACE = -1000012, KIND = -1000013, SIZE = -1000014, STORE = -1000015;
-    private static final int MIN = Integer.MIN_VALUE, MAX = Integer.MAX_VALUE;
+public final class PromisesTest extends Trial {
     private static final String FIVE_SORTS_BUT_TIDE = "dial 12; hand hour 1; hand moon 2; hand sweep 3; hand back 4;";
-
-    private static int asked = 0;
-    private static int wrong = 0;
-
-    private static void due(String what, long got, long want) {
-        asked++;
-        if (got != want) {
-            wrong++;
-            System.out.println(what + " answered " + got + ", due is " + want);
-        }
-    }
-
-    private static void write(AlikeHands x, String text) {
-        for (int i = 0; i < text.length(); i += 8) {
-            int n = Math.min(8, text.length() - i);
-            long w = 0;
-            for (int k = 0; k < n; k++) {
-                w = w << 8 | text.charAt(i + k) & 255;
-            }
-            x.feed(w, n);
-        }
-    }
-
-    private static int read(AlikeHands x, String text) {
-        write(x, text);
-        return x.clock();
-    }
-
-    private static AlikeHands clockOf(String text) {
-        AlikeHands x = new AlikeHands();
-        if (read(x, text) < 1) {
-            wrong++;
-            System.out.println("not read: " + text);
-        }
-        return x;
-    }
-
-    private static void fill(AlikeHands x, int row, int lane, int... items) {
-        x.row(row, lane, items.length);
-        for (int i = 0; i < items.length; i++) {
-            x.set(row, i, items[i]);
-        }
-    }
-
-    /** Items from 0 on, of a row asked of a clock of one hand: that is never BAD for a dial of more parts than the item. */
-    private static void dueItems(AlikeHands x, String what, int row, int... items) {
-        for (int i = 0; i < items.length; i++) {
-            int v = 0;
-            while (v < 719 && x.lies(row, i, v + 1, 0) == BAD) {
-                v++;
-            }
-            due(what + " item " + i, v, items[i]);
-        }
-    }
 
     private static void duePair(String what, int above, int below, int wantAbove, int wantBelow) {
         due(what + " above", above, wantAbove);
@@ -77,26 +20,6 @@ public final class PromisesTest {
     private static void dueDoubt(AlikeHands x, int i, int xAbove, int xBelow, int yAbove, int yBelow) {
         duePair("doubt " + i + " x", x.doubt(0, 1, i, 0), x.doubt(0, 1, i, 1), xAbove, xBelow);
         duePair("doubt " + i + " y", x.doubt(0, 1, i, 2), x.doubt(0, 1, i, 3), yAbove, yBelow);
-    }
-
-    private static void dueFault(String text, int place, int number) {
-        AlikeHands x = new AlikeHands();
-        due("clock of <" + text + ">", read(x, text), -1000100 - place);
-        due("fault of <" + text + ">", x.fault(), number);
-    }
-
-    private static void dueRead(String text, int hands) {
-        AlikeHands x = new AlikeHands();
-        due("clock of <" + text + ">", read(x, text), hands);
-        due("fault of <" + text + ">", x.fault(), 0);
-    }
-
-    private static void dueAsk(AlikeHands x, int hand, int what, int answer, int... trace) {
-        due("ask(" + hand + ", " + what + ")", x.ask(hand, what), answer);
-        for (int i = 0; i < trace.length; i++) {
-            due("trace(" + i + ") of ask(" + hand + ", " + what + ")", x.trace(i), trace[i]);
-        }
-        due("trace's end of ask(" + hand + ", " + what + ")", x.trace(trace.length), NONE);
     }
 
     private static void promise1NewObject() {
@@ -856,9 +779,6 @@ public final class PromisesTest {
         promises26And27Asks();
         promise28Count();
         promise29Status();
-        System.out.println(asked + " answers, " + wrong + " not as due");
-        if (wrong != 0) {
-            System.exit(1);
-        }
+        end();
     }
 }
