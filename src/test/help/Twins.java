@@ -54,9 +54,7 @@ abstract class Twins extends Trial {
     /** As full(), and no room on the tape. */
     static AlikeHands brimming() {
         AlikeHands x = full();
-        for (int left = 200 - WAITING.length(); left > 0; left--) {
-            x.feed(32, 1);
-        }
+        write(x, " ".repeat(200 - WAITING.length()));
         return x;
     }
 

@@ -376,8 +376,8 @@ public final class EdgesTest extends Twins {
     private static void doubts() {
         says("Promise 13: DOUBTS: how many; NONE.");
         due("none is 0", hands("hour 1", "back 2").doubts(0, 1), 0);
-        due("the most", hands("hour 11", "tide 12").doubts(0, 1), 442);
-        due("of hands that go both ways", hands("back 11", "tide 12").doubts(0, 1), 420);
+        due("the most", hands("hour 1", "tide 12").doubts(0, 1), 552);
+        due("the most of hands that go both ways", hands("back 1", "tide 12").doubts(0, 1), 550);
         due("NONE", hands("tide 6", "back 12").doubts(0, 1), NONE);
         says("Promise 13: BAD: alike, too.");
         pairsAreBad((y, a, b) -> y.doubts(a, b));
@@ -387,6 +387,9 @@ public final class EdgesTest extends Twins {
         due("the last", doubt(x, 131), "142/143 131/143");
         due("just beyond", doubt(x, 132), NONE_BY_NONE + " " + NONE_BY_NONE);
         due("far beyond", doubt(x, MAX), NONE_BY_NONE + " " + NONE_BY_NONE);
+        AlikeHands most = hands("hour 1", "tide 12");
+        due("the last of the most", doubt(most, 551), "574/575 551/575");
+        due("just beyond the most", doubt(most, 552), NONE_BY_NONE + " " + NONE_BY_NONE);
         says("Promise 14: BAD: alike, i below 0, too.");
         pairsAreBad((y, a, b) -> y.doubt(a, b, 0, 0));
         numbersAreBad("i", (y, v) -> y.doubt(0, 2, v, 0), -1, MIN);
@@ -401,6 +404,8 @@ public final class EdgesTest extends Twins {
         due("just behind", x.isDoubt(0, 1, 840, 9999), 0);
         due("left out", x.isDoubt(0, 1, 13, 143), 0);
         due("0", hands("hour 3", "hour 6").isDoubt(0, 1, 0, 9999), 1);
+        due("0 by 1", hands("hour 3", "hour 6").isDoubt(0, 1, 0, 1), 1);
+        due("one whose other is 0", hands("hour 3", "hour 6").isDoubt(0, 1, 1, 3), 1);
         due("the last", hands("hour 3", "hour 6").isDoubt(0, 1, 8888, 9999), 1);
         due("NONE", hands("hour 1", "hour 1").isDoubt(0, 1, 0, 1), NONE);
         says("Promise 15: BAD: alike, too.");
@@ -471,6 +476,7 @@ public final class EdgesTest extends Twins {
         numbersAreBad("row", (y, v) -> y.lies(v, 0, 30, 0), NO_ROWS);
         numbersAreBad("D", (y, v) -> y.lies(0, 0, v, 0), NO_PARTS);
         numbersAreBad("what", (y, v) -> y.lies(0, 0, 30, v), -1, 4, MIN, MAX);
+        refused("D, of a row that is missing", y -> y.lies(3, 0, 0, 0), BAD);
         says("Promise 19: STATE: no CLOCK (ahead of BAD)");
         refused("no clock", Twins::bare, y -> y.lies(0, 0, 30, 0), STATE);
         refused("no clock, ROW", Twins::bare, y -> y.lies(8, 0, 30, 0), STATE);
@@ -524,7 +530,8 @@ public final class EdgesTest extends Twins {
         refused("8 items of 4", y -> y.firstLie(0, 2, 30), PLACE);
         refused("4 items of 3", y -> y.firstLie(1, 1, 720), PLACE);
         refused("4 items of none", y -> y.firstLie(7, 1, 720), PLACE);
-        refused("40 items of 39", fullThen(y -> y.row(2, 2, 39)), y -> y.firstLie(2, 10, 30), PLACE);
+        x.row(0, 0, 39);
+        due("40 items of 39", x.firstLie(0, 10, 30), PLACE);
         says("Promise 20: then BAD: an ITEM.");
         refused("D", y -> y.firstLie(0, 1, 4), BAD);
         refused("in a reading behind the first that lies", fullThen(y -> y.set(2, 7, 720)), y -> y.firstLie(2, 2, 720), BAD);

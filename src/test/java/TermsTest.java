@@ -4,6 +4,16 @@ public final class TermsTest extends Twins {
     private static final String NONE_BY_NONE = NONE + "/" + NONE;
 
     private static void numbers() {
+        says("Numbers go from 0 on.");
+        AlikeHands first = clockOf(FOUR);
+        due("the first hand", first.hand(0, 0), 1);
+        due("the last of four", first.hand(3, 0), 4);
+        due("the first row", first.row(0, 0, 4), 4);
+        due("the last of eight", first.row(7, 0, 4), 4);
+        due("the first place", first.set(0, 0, 1), 1);
+        due("the last of four", first.set(0, 3, 1), 1);
+        due("the first reading", first.firstLie(0, 1, 2), 0);
+
         says("told as two numbers in lowest terms (0 is 0 by 1): a MOMENT");
         AlikeHands x = hands("hour 2", "hour 4");
         due("x and y of the first", doubt(x, 0), "0/1 1/2");
@@ -46,6 +56,14 @@ public final class TermsTest extends Twins {
     }
 
     private static void refusals() {
+        says("BAD (a number is not as told; there is no such thing)");
+        refused("a row", x -> x.drop(8), BAD);
+        refused("a hand", x -> x.kind(4), BAD);
+        refused("a kind", x -> x.as(0, 6), BAD);
+        refused("an image", x -> x.restore(2), BAD);
+        refused("a number of marks", x -> x.slip(0, 61), BAD);
+        refused("a moment", x -> x.glass(1, 1, 0), BAD);
+
         says("the first of these that fits: BAD ahead of STATE");
         refused("image", Twins::bare, x -> x.image(2), BAD);
         refused("restore", Twins::bare, x -> x.restore(2), BAD);
@@ -159,10 +177,12 @@ public final class TermsTest extends Twins {
         due("a text of 200, a fault at the last", read(x, clockText(60, "hour 12") + " ".repeat(178) + ";"), -1000299);
 
         says("NAMES (letters a to z)");
-        dueFault("dial 9;hand hourz 1;", 12, 1);
-        dueFault("dial 9;hand houra 1;", 12, 1);
-        dueFault("dial 9;hand hour{1;", 16, 1);
-        dueFault("dial 9;hand hour`1;", 16, 1);
+        for (char sign = 0; sign < 256; sign++) {
+            boolean letter = sign >= 'a' && sign <= 'z';
+            if (letter || (sign < '0' || sign > '9') && sign != ' ' && sign != '\n') {
+                dueFault("dial 9;hand hour" + sign + "1;", letter ? 12 : 16, 1);
+            }
+        }
         dueFault("dial 9;hand Hour 1;", 12, 1);
         dueFault("dial 9;hand hourR 1;", 16, 1);
         dueFault("dial 9;hand hou 1;", 12, 1);
@@ -183,8 +203,10 @@ public final class TermsTest extends Twins {
 
         says("SIGNS ;");
         dueRead("dial 9;hand hour 1;", 1);
-        for (char sign : ":,.<!?-+#&{}\u00e9\u0000\u007f\u0080\u00bb\u00ff".toCharArray()) {
-            dueFault("dial 9" + sign + "hand hour 1;", 6, 1);
+        for (char sign = 0; sign < 256; sign++) {
+            if ((sign < '0' || sign > '9') && sign != ' ' && sign != '\n' && sign != ';') {
+                dueFault("dial 9" + sign + "hand hour 1;", 6, 1);
+            }
         }
         dueFault("dial 9;;hand hour 1;", 7, 1);
     }
@@ -390,14 +412,16 @@ public final class TermsTest extends Twins {
     private static void acts() {
         says("ACTS (24 at most are kept, of more the oldest is forgotten");
         AlikeHands x = hands("hour 1", "back 2");
-        for (int act = 1; act <= 24; act++) {
-            x.slip(act % 2, 1);
-            due("acts", x.count(4), act);
+        int[][] shown = new int[26][2];
+        for (int act = 1; act <= 25; act++) {
+            x.slip(act % 2, act);
+            due("acts", x.count(4), Math.min(act, 24));
+            shown[act] = new int[] {x.hand(0, 2), x.hand(1, 2)};
         }
-        x.slip(0, 1);
-        due("acts of 25", x.count(4), 24);
         for (int left = 23; left >= 0; left--) {
             due("undo", x.undo(), left);
+            due("hand 0, " + left + " left", x.hand(0, 2), shown[left + 1][0]);
+            due("hand 1, " + left + " left", x.hand(1, 2), shown[left + 1][1]);
         }
         due("no 25th undo", x.undo(), STATE);
         due("the oldest stays", x.hand(1, 2), 1);
@@ -557,18 +581,22 @@ public final class TermsTest extends Twins {
         says("ANYHOW: a dial that is hung anyhow shows the same at as many MOMENTS as all HANDS are ALL together.");
         String[][] hung = {{"hour 1", "hour 12"}, {"hour 2", "hour 8", "tide 7", "back 1"}, {"hour 4", "back 4", "tide 2"}};
         for (String[] hands : hung) {
-            due("as many", momentsAnyhow(hands(hands), hands.length), hands(hands).all());
+            AlikeHands asked = hands(hands);
+            int[] speeds = new int[hands.length];
+            for (int h = 0; h < hands.length; h++) {
+                speeds[h] = asked.hand(h, 1);
+            }
+            due("as many", asked.all(), momentsAlike(speeds));
         }
     }
 
-    /** At how many moments the hands are as far from one another as at 0: for hands that meet at 792nds of a round. */
-    private static int momentsAnyhow(AlikeHands x, int hands) {
+    /** At how many moments hands are as far from one another as at 0: of hands that meet at 792nds of a round. */
+    private static int momentsAlike(int... speeds) {
         int n = 0;
-        int parts = 792;
-        for (int k = 0; k < parts; k++) {
+        for (int k = 0; k < 792; k++) {
             boolean same = true;
-            for (int h = 1; h < hands; h++) {
-                same &= Math.floorMod((x.hand(h, 1) - x.hand(0, 1)) * k, parts) == 0;
+            for (int speed : speeds) {
+                same &= (speed - speeds[0]) * k % 792 == 0;
             }
             n += same ? 1 : 0;
         }
@@ -618,7 +646,8 @@ public final class TermsTest extends Twins {
         due("the nearest of two, round", lie(two, 8, 0, 7), "1/8");
         due("as near to both", lie(two, 8, 0, 2), "1/4");
         due("a part of a part", lie(two, 720, 1, 0), "1/1440");
-        due("by nothing", lie(two, 720, 0, 360), "0/1");
+        due("by nothing, at the first of two", lie(two, 720, 0, 0), "0/1");
+        due("by nothing, at the second of two", lie(two, 720, 0, 360), "0/1");
         due("one hand", lie(one, 720, 719), "0/1");
 
         says("NONE: there is none for the others.");
