@@ -922,8 +922,8 @@ public final class AlikeHands {
         }
 
         /**
-         * How far a hand is off its reading, either way, at the turn-th moment at which the base hand is as read:
-         * in parts of the base hand's speed times the dial's parts, which make all of that whole numbers.
+         * How far a hand is off its reading, either way, at the turn-th moment at which the base hand is as read.
+         * Each of the dial's parts is cut into as many as the base hand's speed, so that only whole numbers come up.
          */
         int gap(int base, int turn, int hand) {
             int baseSpeed = speedOf(base);
